@@ -1,0 +1,174 @@
+import java.util.ArrayList;
+import java.util.List;
+
+/** Promise 8, undo, and which calls are changes. */
+public final class HistoryTest {
+    public static void main(String[] args) {
+        emptyHistory();
+        atMostFour();
+        eachKindOfChange();
+        lookingIsNoChange();
+        errorsAreNoChanges();
+        everythingComesBack();
+        theTextStays();
+        ringGoesRound();
+        Check.end();
+    }
+
+    private static void emptyHistory() {
+        BridgeLegs x = new BridgeLegs();
+        Check.due("undo of nothing", x.undo(), Check.IMPOSSIBLE);
+        x.go(1);
+        Check.due("undo of one", x.undo(), 0);
+        Check.due("undo of no more", x.undo(), Check.IMPOSSIBLE);
+        Check.due("slot", x.count(0), 0);
+    }
+
+    private static void atMostFour() {
+        BridgeLegs x = new BridgeLegs();
+        for (int change = 1; change <= 6; change++) {
+            x.set(5, change);
+            Check.due("states behind " + change + " changes", x.count(5), Math.min(change, 4));
+        }
+        for (int left = 3; left >= 0; left--) {
+            Check.due("undo", x.undo(), left);
+            Check.due("cooling", x.count(15), left + 2);
+            Check.due("states left", x.count(5), left);
+        }
+        Check.due("undo of a dropped one", x.undo(), Check.IMPOSSIBLE);
+        Check.due("cooling stays", x.count(15), 2);
+    }
+
+    private static void eachKindOfChange() {
+        BridgeLegs x = new BridgeLegs();
+        x.setLoad(1, 0, 7);
+        Check.due("setLoad", x.undo(), 0);
+        Check.due("step", x.load(1, 0), 50);
+        x.command(3, 2);
+        Check.due("command", x.undo(), 0);
+        Check.due("command of leg 3", x.leg(3, 0), 0);
+        x.chop(1, 1);
+        Check.due("chop", x.undo(), 0);
+        Check.due("chopper", x.load(1, 6), 0);
+        Check.text(x, "hlhl*7;");
+        Check.due("typing is no change", x.undo(), Check.IMPOSSIBLE);
+        x.play();
+        Check.due("play is one change", x.undo(), 0);
+        Check.due("slot", x.count(0), 0);
+        Check.due("command given by play", x.leg(0, 0), 0);
+        Check.text(x, "");
+        x.play();
+        Check.due("play of the empty text", x.undo(), 0);
+        // What changes nothing, but returns no error, is a change too.
+        x.command(0, 0);
+        x.chop(0, 0);
+        Check.due("two changes", x.count(5), 2);
+    }
+
+    private static void lookingIsNoChange() {
+        BridgeLegs x = new BridgeLegs();
+        x.go(1);
+        Check.look(x);
+        x.until(0, 5);
+        x.ifGo(0, 5);
+        x.type('h');
+        x.wrong();
+        x.playing();
+        x.clearText();
+        Check.due("one change", x.count(5), 1);
+        Check.due("undo is none", x.undo(), 0);
+    }
+
+    private static void errorsAreNoChanges() {
+        BridgeLegs x = new BridgeLegs();
+        x.set(9, 0);
+        x.setLoad(0, 0, 0);
+        x.command(4, 0);
+        x.chop(0, 3);
+        x.go(0);
+        x.clear(0, 0);
+        x.clear(0, 7);
+        Check.text(x, "h");
+        x.play();
+        Check.due("no change", x.count(5), 0);
+    }
+
+    /** A bridge with something of everything: held, blanked, latched, driven, a full scope. */
+    private static BridgeLegs busy() {
+        BridgeLegs x = new BridgeLegs();
+        x.set(0, 3);
+        x.set(1, 4);
+        x.set(2, 700);
+        x.setLoad(1, 0, 90);
+        x.setLoad(0, 2, 150);
+        x.setLoad(0, 3, 20);
+        x.chop(0, 1);
+        Check.commands(x, 1, 2, 2, 1);
+        x.go(40);
+        x.command(1, 1);
+        x.go(1);
+        return x;
+    }
+
+    private static void everythingComesBack() {
+        BridgeLegs x = busy();
+        List<Long> before = Check.look(x);
+        List<Runnable> changes = new ArrayList<>();
+        changes.add(() -> x.go(1));
+        changes.add(() -> x.go(1000));
+        changes.add(() -> x.set(1, 9));
+        changes.add(() -> x.setLoad(1, 3, 9));
+        changes.add(() -> x.command(2, 0));
+        changes.add(() -> x.chop(0, 0));
+        changes.add(() -> x.clear(1, 0));
+        for (Runnable change : changes) {
+            change.run();
+            x.undo();
+            List<Long> behind = Check.look(x);
+            // Only the number of states in the history (what 5, and place 6) is one less.
+            behind.set(6, before.get(6));
+            Check.due("differences behind the undo", Check.differences(before, behind), 0);
+        }
+        BridgeLegs twin = busy();
+        Check.due("what comes next", x.ifGo(0, 37), twin.ifGo(0, 37));
+        x.go(37);
+        twin.go(37);
+        List<Long> later = Check.look(x);
+        List<Long> twinLater = Check.look(twin);
+        later.set(6, twinLater.get(6));
+        Check.due("differences from a twin", Check.differences(later, twinLater), 0);
+    }
+
+    private static void theTextStays() {
+        BridgeLegs x = new BridgeLegs();
+        x.go(1);
+        Check.text(x, "oooo;");
+        x.go(1);
+        x.type('h');
+        x.undo();
+        Check.due("text behind the undo", x.count(6), 6);
+        x.undo();
+        Check.due("text behind both", x.count(6), 6);
+        Check.due("and as it was", x.wrong(), 6);
+        x.clearText();
+        Check.due("text emptied", x.count(6), 0);
+    }
+
+    private static void ringGoesRound() {
+        BridgeLegs x = new BridgeLegs();
+        for (int round = 0; round < 9; round++) {
+            x.go(1);
+            x.go(2);
+            x.go(4);
+            Check.due("undo", x.undo(), Math.min(2 * round + 3, 4) - 1);
+            Check.due("slot", x.count(0), 3L * (round + 1));
+        }
+        // Of the last rounds, the states before go(2) at 25, before go(1) at 24 and before go(2) at 22 are left.
+        long[] slots = {25, 24, 22};
+        for (int time = 0; time < slots.length; time++) {
+            Check.due("undo " + time, x.undo(), slots.length - 1 - time);
+            Check.due("slot behind undo " + time, x.count(0), slots[time]);
+        }
+        Check.due("no more", x.undo(), Check.IMPOSSIBLE);
+    }
+}
