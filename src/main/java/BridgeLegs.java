@@ -383,11 +383,12 @@ public final class BridgeLegs {
 
         /** Takes the command that a letter of a pattern gives; "=" gives none. */
         void obey(char letter) {
-            switch (letter) {
-                case 'o': command = OFF; break;
-                case 'h': command = HIGH; break;
-                case 'l': command = LOW; break;
-                default: break;
+            if (letter == 'o') {
+                command = OFF;
+            } else if (letter == 'h') {
+                command = HIGH;
+            } else if (letter == 'l') {
+                command = LOW;
             }
         }
 

@@ -10,6 +10,8 @@ public final class HistoryTest {
         lookingIsNoChange();
         errorsAreNoChanges();
         everythingComesBack();
+        drivenLoadsComeBack();
+        latchesComeBack();
         theTextStays();
         ringGoesRound();
         Check.end();
@@ -137,6 +139,46 @@ public final class HistoryTest {
         List<Long> twinLater = Check.look(twin);
         later.set(6, twinLater.get(6));
         Check.due("differences from a twin", Check.differences(later, twinLater), 0);
+    }
+
+    private static void drivenLoadsComeBack() {
+        BridgeLegs x = new BridgeLegs();
+        Check.commands(x, 1, 2, 2, 1);
+        x.go(7);
+        List<Long> before = Check.look(x);
+        x.go(5);
+        x.undo();
+        List<Long> behind = Check.look(x);
+        behind.set(6, before.get(6));
+        Check.due("differences of driven loads", Check.differences(before, behind), 0);
+        Check.due("driven run", x.load(1, 11), 7);
+        Check.due("sum of the sizes", x.count(20), 2 * 40 * 28);
+    }
+
+    private static void latchesComeBack() {
+        BridgeLegs x = new BridgeLegs();
+        x.set(1, 0);
+        x.set(2, 100);
+        Check.commands(x, 0, 0, 2, 1);
+        x.go(3);
+        x.go(5);
+        x.clear(1, 0);
+        x.go(3);
+        Check.due("latched anew in the slot", x.fault(1, 0, 1), 10);
+        x.undo();
+        Check.due("cleared", x.fault(1, 0, 0), 0);
+        Check.due("slot of none", x.fault(1, 0, 1), Check.NONE);
+        x.command(2, 1);
+        x.command(3, 2);
+        x.go(3);
+        Check.due("latched the other way", x.fault(1, 0, 2), 120);
+        x.undo();
+        x.undo();
+        x.undo();
+        x.undo();
+        Check.due("latched again", x.fault(1, 0, 0), 1);
+        Check.due("in its old slot", x.fault(1, 0, 1), 2);
+        Check.due("with its old current", x.fault(1, 0, 2), -120);
     }
 
     private static void theTextStays() {

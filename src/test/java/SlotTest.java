@@ -8,6 +8,7 @@ public final class SlotTest {
         wishOffIsOffAtOnce();
         drives();
         currentTowardZero();
+        smallestCurrents();
         currentAsFarAsItGoes();
         chopperHolds();
         hysteresis();
@@ -176,6 +177,24 @@ public final class SlotTest {
         currents(x, 50, 100);
         x.command(1, 1);
         currents(x, 100, 100);
+    }
+
+    private static void smallestCurrents() {
+        for (int sign = -1; sign <= 1; sign += 2) {
+            BridgeLegs x = new BridgeLegs();
+            x.setLoad(0, 0, 1);
+            x.setLoad(0, 1, 0);
+            Check.commands(x, sign > 0 ? 1 : 2, sign > 0 ? 2 : 1, 0, 0);
+            currents(x, sign, sign * 2, sign * 3);
+            x.command(1, 0);
+            currents(x, sign * 2, sign, 0, 0);
+            x.command(1, sign > 0 ? 2 : 1);
+            currents(x, sign);
+            x.setLoad(0, 1, 1);
+            currents(x, sign, sign);
+            x.setLoad(0, 1, 2);
+            currents(x, 0, 0);
+        }
     }
 
     /** The cut at 1000000 itself is out of reach: the heat turns the legs off long before. */
