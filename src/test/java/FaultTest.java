@@ -21,18 +21,18 @@ public final class FaultTest {
         Check.end();
     }
 
-    private static void fault(BridgeLegs x, int load, int fault, int... want) {
+    private static void fault(Counted x, int load, int fault, int... want) {
         for (int what = 0; what < want.length; what++) {
             Check.due("fault(" + load + ", " + fault + ", " + what + ")", x.fault(load, fault, what), want[what]);
         }
     }
 
-    private static void notLatched(BridgeLegs x, int load, int fault) {
+    private static void notLatched(Counted x, int load, int fault) {
         fault(x, load, fault, 0, Check.NONE, Check.NONE, Check.NONE, 0);
     }
 
     private static void arguments() {
-        BridgeLegs x = new BridgeLegs();
+        Counted x = new Counted();
         int[] extremes = {Integer.MIN_VALUE, -1, Integer.MAX_VALUE};
         for (int wrong : extremes) {
             Check.due("clear(" + wrong + ", 0)", x.clear(wrong, 0), Check.INVALID);
@@ -56,7 +56,7 @@ public final class FaultTest {
     }
 
     private static void overCurrent() {
-        BridgeLegs x = new BridgeLegs();
+        Counted x = new Counted();
         x.set(1, 0);
         x.set(2, 120);
         Check.commands(x, 1, 2, 0, 0);
@@ -81,7 +81,7 @@ public final class FaultTest {
         Check.due("legs wish on again", x.leg(0, 2), 1);
         x.undo();
         fault(x, 0, OVER, 1, 2, 120, 0, 1);
-        x = new BridgeLegs();
+        x = new Counted();
         x.set(1, 0);
         x.set(2, 120);
         Check.commands(x, 0, 0, 2, 1);
@@ -90,13 +90,13 @@ public final class FaultTest {
     }
 
     private static void overCurrentOnlyWhileNotBlanked() {
-        BridgeLegs x = new BridgeLegs();
+        Counted x = new Counted();
         x.set(2, 40);
         Check.commands(x, 1, 2, 0, 0);
         Check.due("blanked", x.go(3), 0);
         Check.due("not blanked any more", x.go(1), 1);
         fault(x, 0, OVER, 1, 3, 160, 0, 0);
-        x = new BridgeLegs();
+        x = new Counted();
         x.set(1, 1);
         x.set(2, 40);
         Check.commands(x, 1, 2, 0, 0);
@@ -104,15 +104,15 @@ public final class FaultTest {
         Check.due("blanked for no more", x.go(1), 1);
     }
 
-    private static BridgeLegs opened(int first, int second) {
-        BridgeLegs x = new BridgeLegs();
+    private static Counted opened(int first, int second) {
+        Counted x = new Counted();
         x.setLoad(0, 1, 100);
         Check.commands(x, first, second, 0, 0);
         return x;
     }
 
     private static void open() {
-        BridgeLegs x = opened(1, 2);
+        Counted x = opened(1, 2);
         Check.due("19 slots", x.go(19), 0);
         Check.due("driven run", x.load(0, 11), 19);
         Check.due("20 slots", x.go(1), 1);
@@ -125,7 +125,7 @@ public final class FaultTest {
         // 49 in the first slot and 98 in the next: not open.
         x.set(3, 2);
         Check.due("current flows", x.go(100), 0);
-        x = new BridgeLegs();
+        x = new Counted();
         x.setLoad(0, 1, 0);
         x.set(3, 2);
         x.setLoad(0, 0, 100);
@@ -154,7 +154,7 @@ public final class FaultTest {
     }
 
     private static void openBothWays() {
-        BridgeLegs x = opened(1, 2);
+        Counted x = opened(1, 2);
         x.set(0, 0);
         x.set(3, 4);
         x.go(2);
@@ -179,11 +179,11 @@ public final class FaultTest {
     }
 
     private static void openAndHotWhileBlanked() {
-        BridgeLegs x = opened(1, 2);
+        Counted x = opened(1, 2);
         x.set(1, 50);
         Check.due("open", x.go(20), 1);
         Check.due("blanked", x.load(0, 8), 30);
-        x = new BridgeLegs();
+        x = new Counted();
         x.set(1, 50);
         x.set(2, 1);
         x.set(4, 1);
@@ -195,7 +195,7 @@ public final class FaultTest {
     }
 
     private static void hot() {
-        BridgeLegs x = new BridgeLegs();
+        Counted x = new Counted();
         x.setLoad(0, 0, 1000);
         x.setLoad(0, 1, 0);
         x.set(2, 1000000);
@@ -216,7 +216,7 @@ public final class FaultTest {
     }
 
     private static void legsAreOffWhileLatched() {
-        BridgeLegs x = opened(1, 2);
+        Counted x = opened(1, 2);
         x.set(3, 2);
         x.go(2);
         Check.due("latched", x.load(0, 10), 1);
@@ -240,7 +240,7 @@ public final class FaultTest {
     }
 
     private static void heldGoesOnWhileLatched() {
-        BridgeLegs x = new BridgeLegs();
+        Counted x = new Counted();
         x.set(1, 0);
         x.set(2, 120);
         x.setLoad(0, 2, 120);
@@ -262,7 +262,7 @@ public final class FaultTest {
     }
 
     private static void latchedAgain() {
-        BridgeLegs x = new BridgeLegs();
+        Counted x = new Counted();
         x.set(1, 0);
         x.set(2, 100);
         Check.commands(x, 1, 2, 0, 0);
@@ -281,7 +281,7 @@ public final class FaultTest {
     }
 
     private static void order() {
-        BridgeLegs x = new BridgeLegs();
+        Counted x = new Counted();
         x.set(1, 0);
         x.set(2, 500);
         x.set(4, 40);
@@ -308,7 +308,7 @@ public final class FaultTest {
         Check.due("over is the first", x.clear(0, OVER), 1);
         fault(x, 0, HOT, 1, 1, 900, 0, 1);
         Check.due("then hot", x.clear(0, HOT), 0);
-        x = new BridgeLegs();
+        x = new Counted();
         x.set(1, 0);
         x.set(4, 1);
         x.set(5, 0);
@@ -332,7 +332,7 @@ public final class FaultTest {
     }
 
     private static void orderOfOneSlot() {
-        BridgeLegs x = new BridgeLegs();
+        Counted x = new Counted();
         x.set(1, 0);
         x.set(3, 2);
         x.set(2, 1000000);
@@ -366,7 +366,7 @@ public final class FaultTest {
     }
 
     private static void loadsAreApart() {
-        BridgeLegs x = new BridgeLegs();
+        Counted x = new Counted();
         x.set(1, 0);
         x.set(2, 40);
         Check.commands(x, 1, 2, 2, 1);

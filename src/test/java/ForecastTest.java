@@ -1,4 +1,4 @@
-import java.util.List;
+import java.util.Map;
 
 /** Promises 14 and 15: until and ifGo. */
 public final class ForecastTest {
@@ -13,7 +13,7 @@ public final class ForecastTest {
     }
 
     private static void arguments() {
-        BridgeLegs x = new BridgeLegs();
+        Counted x = new Counted();
         for (int wrong : new int[] {Integer.MIN_VALUE, -1, 2, Integer.MAX_VALUE}) {
             Check.due("until(" + wrong + ", 5)", x.until(wrong, 5), Check.INVALID);
             Check.due("ifGo(" + wrong + ", 5)", x.ifGo(wrong, 5), Check.INVALID);
@@ -31,7 +31,7 @@ public final class ForecastTest {
     }
 
     private static void until() {
-        BridgeLegs x = new BridgeLegs();
+        Counted x = new Counted();
         Check.commands(x, 1, 2, 2, 1);
         Check.due("until(0, 1)", x.until(0, 1), 1);
         Check.due("until(0, 40)", x.until(0, 40), 1);
@@ -53,7 +53,7 @@ public final class ForecastTest {
     }
 
     private static void untilTheLastSlot() {
-        BridgeLegs x = new BridgeLegs();
+        Counted x = new Counted();
         x.set(2, 1000000);
         x.set(4, 1000000000);
         x.set(5, 1000000);
@@ -65,7 +65,7 @@ public final class ForecastTest {
     }
 
     private static void ifGo() {
-        BridgeLegs x = new BridgeLegs();
+        Counted x = new Counted();
         x.set(1, 0);
         x.setLoad(1, 2, 100);
         x.setLoad(1, 3, 50);
@@ -83,22 +83,22 @@ public final class ForecastTest {
     }
 
     private static void nothingChanges() {
-        BridgeLegs x = new BridgeLegs();
+        Counted x = new Counted();
         Check.commands(x, 1, 2, 2, 1);
         x.chop(0, 1);
         x.go(50);
-        List<Long> before = Check.look(x);
+        Map<String, Long> before = Check.look(x);
         x.ifGo(0, 1000);
         x.ifGo(1, 3);
         x.until(0, 4000);
         x.until(1, 1000000);
-        Check.due("differences", Check.differences(before, Check.look(x)), 0);
+        Check.same("behind until and ifGo", Check.look(x), before);
         Check.due("undo", x.undo(), 3);
         Check.due("slot", x.count(0), 0);
     }
 
     private static void theLimitOfSlotsIsNone() {
-        BridgeLegs x = new BridgeLegs();
+        Counted x = new Counted();
         for (int time = 0; time < 100; time++) {
             x.go(1000);
         }

@@ -1,5 +1,6 @@
-import java.util.ArrayList;
 import java.util.List;
+import java.util.Map;
+import java.util.function.Consumer;
 
 /** Promise 8, undo, and which calls are changes. */
 public final class HistoryTest {
@@ -18,7 +19,7 @@ public final class HistoryTest {
     }
 
     private static void emptyHistory() {
-        BridgeLegs x = new BridgeLegs();
+        Counted x = new Counted();
         Check.due("undo of nothing", x.undo(), Check.IMPOSSIBLE);
         x.go(1);
         Check.due("undo of one", x.undo(), 0);
@@ -27,7 +28,7 @@ public final class HistoryTest {
     }
 
     private static void atMostFour() {
-        BridgeLegs x = new BridgeLegs();
+        Counted x = new Counted();
         for (int change = 1; change <= 6; change++) {
             x.set(5, change);
             Check.due("states behind " + change + " changes", x.count(5), Math.min(change, 4));
@@ -42,7 +43,7 @@ public final class HistoryTest {
     }
 
     private static void eachKindOfChange() {
-        BridgeLegs x = new BridgeLegs();
+        Counted x = new Counted();
         x.setLoad(1, 0, 7);
         Check.due("setLoad", x.undo(), 0);
         Check.due("step", x.load(1, 0), 50);
@@ -68,7 +69,7 @@ public final class HistoryTest {
     }
 
     private static void lookingIsNoChange() {
-        BridgeLegs x = new BridgeLegs();
+        Counted x = new Counted();
         x.go(1);
         Check.look(x);
         x.until(0, 5);
@@ -82,7 +83,7 @@ public final class HistoryTest {
     }
 
     private static void errorsAreNoChanges() {
-        BridgeLegs x = new BridgeLegs();
+        Counted x = new Counted();
         x.set(9, 0);
         x.setLoad(0, 0, 0);
         x.command(4, 0);
@@ -95,68 +96,35 @@ public final class HistoryTest {
         Check.due("no change", x.count(5), 0);
     }
 
-    /** A bridge with something of everything: held, blanked, latched, driven, a full scope. */
-    private static BridgeLegs busy() {
-        BridgeLegs x = new BridgeLegs();
-        x.set(0, 3);
-        x.set(1, 4);
-        x.set(2, 700);
-        x.setLoad(1, 0, 90);
-        x.setLoad(0, 2, 150);
-        x.setLoad(0, 3, 20);
-        x.chop(0, 1);
-        Check.commands(x, 1, 2, 2, 1);
-        x.go(40);
-        x.command(1, 1);
-        x.go(1);
-        return x;
-    }
-
     private static void everythingComesBack() {
-        BridgeLegs x = busy();
-        List<Long> before = Check.look(x);
-        List<Runnable> changes = new ArrayList<>();
-        changes.add(() -> x.go(1));
-        changes.add(() -> x.go(1000));
-        changes.add(() -> x.set(1, 9));
-        changes.add(() -> x.setLoad(1, 3, 9));
-        changes.add(() -> x.command(2, 0));
-        changes.add(() -> x.chop(0, 0));
-        changes.add(() -> x.clear(1, 0));
-        for (Runnable change : changes) {
-            change.run();
-            x.undo();
-            List<Long> behind = Check.look(x);
-            // Only the number of states in the history (what 5, and place 6) is one less.
-            behind.set(6, before.get(6));
-            Check.due("differences behind the undo", Check.differences(before, behind), 0);
+        List<Consumer<Counted>> changes = List.of(x -> x.go(1), x -> x.go(1000), x -> x.set(1, 9),
+            x -> x.setLoad(1, 3, 9), x -> x.command(2, 0), x -> x.chop(0, 0), x -> x.clear(1, 0), x -> x.play());
+        for (int number = 0; number < changes.size(); number++) {
+            Counted x = Check.busy("hl==*3;");
+            Counted twin = Check.busy("hl==*3;");
+            changes.get(number).accept(x);
+            Check.due("change " + number + " undone", x.undo(), 3);
+            Check.same("undone change " + number, Check.look(x), Check.look(twin), "count(5)");
+            x.go(37);
+            twin.go(37);
+            Check.same("slots behind the undone change " + number, Check.look(x), Check.look(twin), "count(5)");
         }
-        BridgeLegs twin = busy();
-        Check.due("what comes next", x.ifGo(0, 37), twin.ifGo(0, 37));
-        x.go(37);
-        twin.go(37);
-        List<Long> later = Check.look(x);
-        List<Long> twinLater = Check.look(twin);
-        later.set(6, twinLater.get(6));
-        Check.due("differences from a twin", Check.differences(later, twinLater), 0);
     }
 
     private static void drivenLoadsComeBack() {
-        BridgeLegs x = new BridgeLegs();
+        Counted x = new Counted();
         Check.commands(x, 1, 2, 2, 1);
         x.go(7);
-        List<Long> before = Check.look(x);
+        Map<String, Long> before = Check.look(x);
         x.go(5);
         x.undo();
-        List<Long> behind = Check.look(x);
-        behind.set(6, before.get(6));
-        Check.due("differences of driven loads", Check.differences(before, behind), 0);
+        Check.same("driven loads", Check.look(x), before, "count(5)");
         Check.due("driven run", x.load(1, 11), 7);
         Check.due("sum of the sizes", x.count(20), 2 * 40 * 28);
     }
 
     private static void latchesComeBack() {
-        BridgeLegs x = new BridgeLegs();
+        Counted x = new Counted();
         x.set(1, 0);
         x.set(2, 100);
         Check.commands(x, 0, 0, 2, 1);
@@ -182,7 +150,7 @@ public final class HistoryTest {
     }
 
     private static void theTextStays() {
-        BridgeLegs x = new BridgeLegs();
+        Counted x = new Counted();
         x.go(1);
         Check.text(x, "oooo;");
         x.go(1);
@@ -197,7 +165,7 @@ public final class HistoryTest {
     }
 
     private static void ringGoesRound() {
-        BridgeLegs x = new BridgeLegs();
+        Counted x = new Counted();
         for (int round = 0; round < 9; round++) {
             x.go(1);
             x.go(2);

@@ -14,14 +14,14 @@ public final class LookTest {
     }
 
     private static void countOfWhat() {
-        BridgeLegs x = new BridgeLegs();
+        Counted x = new Counted();
         for (int what : new int[] {Integer.MIN_VALUE, -1, 7, 8, 9, 16, 17, 18, 19, 21, 30, Integer.MAX_VALUE}) {
             Check.due("count(" + what + ")", x.count(what), Check.INVALID);
         }
     }
 
     private static void count() {
-        BridgeLegs x = new BridgeLegs();
+        Counted x = new Counted();
         Check.commands(x, 1, 2, 2, 1);
         x.go(3);
         x.command(0, 2);
@@ -36,7 +36,7 @@ public final class LookTest {
         // Load 0: 40 80 120 60 0 0; load 1: 40 to 240.
         Check.due("sizes", x.count(20), 300 + 840);
         Check.due("current of load 1", x.load(1, 4), -240);
-        x = new BridgeLegs();
+        x = new Counted();
         x.set(1, 0);
         x.chop(0, 1);
         x.chop(1, 1);
@@ -48,7 +48,7 @@ public final class LookTest {
     }
 
     private static void legOfWhat() {
-        BridgeLegs x = new BridgeLegs();
+        Counted x = new Counted();
         for (int leg = 0; leg < 4; leg++) {
             Check.due("leg(.., -1)", x.leg(leg, -1), Check.INVALID);
             Check.due("leg(.., 8)", x.leg(leg, 8), Check.INVALID);
@@ -63,14 +63,14 @@ public final class LookTest {
         }
     }
 
-    private static void leg(BridgeLegs x, int leg, int... want) {
+    private static void leg(Counted x, int leg, int... want) {
         for (int what = 0; what < want.length; what++) {
             Check.due("leg(" + leg + ", " + what + ")", x.leg(leg, what), want[what]);
         }
     }
 
     private static void leg() {
-        BridgeLegs x = new BridgeLegs();
+        Counted x = new Counted();
         x.go(5);
         leg(x, 2, 0, 0, 0, 5, 0, 0, 0, 5);
         x.command(2, 2);
@@ -88,7 +88,7 @@ public final class LookTest {
     }
 
     private static void loadOfWhat() {
-        BridgeLegs x = new BridgeLegs();
+        Counted x = new Counted();
         for (int load = 0; load < 2; load++) {
             Check.due("load(.., -1)", x.load(load, -1), Check.INVALID);
             Check.due("load(.., 12)", x.load(load, 12), Check.INVALID);
@@ -102,14 +102,14 @@ public final class LookTest {
         }
     }
 
-    private static void load(BridgeLegs x, int load, int... want) {
+    private static void load(Counted x, int load, int... want) {
         for (int what = 0; what < want.length; what++) {
             Check.due("load(" + load + ", " + what + ")", x.load(load, what), want[what]);
         }
     }
 
     private static void load() {
-        BridgeLegs x = new BridgeLegs();
+        Counted x = new Counted();
         x.setLoad(1, 0, 500);
         x.setLoad(1, 1, 20);
         x.setLoad(1, 2, 960);
@@ -132,7 +132,7 @@ public final class LookTest {
     }
 
     private static void scopeArguments() {
-        BridgeLegs x = new BridgeLegs();
+        Counted x = new Counted();
         x.go(2);
         for (int what = 0; what < 5; what++) {
             Check.due("scope(-1, ..)", x.scope(-1, what), Check.INVALID);
@@ -146,14 +146,14 @@ public final class LookTest {
         }
     }
 
-    private static void scope(BridgeLegs x, int back, int... want) {
+    private static void scope(Counted x, int back, int... want) {
         for (int what = 0; what < want.length; what++) {
             Check.due("scope(" + back + ", " + what + ")", x.scope(back, what), want[what]);
         }
     }
 
     private static void scope() {
-        BridgeLegs x = new BridgeLegs();
+        Counted x = new Counted();
         x.set(1, 0);
         x.setLoad(0, 2, 80);
         x.setLoad(1, 2, 120);
@@ -173,7 +173,7 @@ public final class LookTest {
     }
 
     private static void scopeKeepsTheLatest() {
-        BridgeLegs x = new BridgeLegs();
+        Counted x = new Counted();
         x.setLoad(0, 1, 0);
         Check.commands(x, 1, 2, 0, 0);
         for (int slots = 1; slots <= 70; slots++) {

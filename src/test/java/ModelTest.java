@@ -2,15 +2,16 @@ import java.util.Random;
 
 /** Long runs of calls, always the same ones, answered by BridgeLegs and by the model. */
 public final class ModelTest {
-    private static final int RUNS = 300;
-    private static final int CALLS = 512;
+    private static final int RUNS = 100;
+    /** A round of likely or odd calls has at most ten, so a run stays within the 512 calls of an object. */
+    private static final int CALLS = Counted.MOST_CALLS - 10;
     private static final String[] PARTS = {"hl==;", "lh==*9;", "==hl*30;", "==lh*3;", "oooo*2;", "hhll;", "====*12;",
         "h=l=*7;", "=l=h*120;", "hlhl*40;", "hlhl*0;", "hlhl*501;", "hl;", "====*5", "x", "*", ";", "0", "1", "h", "l", "=", "o"};
     private static final int[] ODD = {Integer.MIN_VALUE, -1, 0, 1, 2, 3, 4, 5, 6, 7, 8, 9, 10, 11, 12, 15, 16, 20, 21,
         31, 32, 33, 50, 51, 80, 100, 101, 126, 127, 1000, 1001, 900000, 900001, 1000000, 1000001, Integer.MAX_VALUE};
 
     private final Random random;
-    private final BridgeLegs bridge = new BridgeLegs();
+    private final Counted bridge = new Counted();
     private final Model model = new Model();
     private final StringBuilder told = new StringBuilder();
     private final int run;

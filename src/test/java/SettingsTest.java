@@ -19,7 +19,7 @@ public final class SettingsTest {
     }
 
     private static void newObject() {
-        BridgeLegs x = new BridgeLegs();
+        Counted x = new Counted();
         Check.due("INVALID_ARGUMENT", BridgeLegs.INVALID_ARGUMENT, Check.INVALID);
         Check.due("NOT_POSSIBLE", BridgeLegs.NOT_POSSIBLE, Check.IMPOSSIBLE);
         Check.due("LIMIT_REACHED", BridgeLegs.LIMIT_REACHED, Check.LIMIT);
@@ -50,7 +50,7 @@ public final class SettingsTest {
 
     private static void set() {
         for (int what = 0; what < 6; what++) {
-            BridgeLegs x = new BridgeLegs();
+            Counted x = new Counted();
             String call = "set(" + what + ", ..)";
             Check.due(call + " too low", x.set(what, LOWEST[what] - 1), Check.INVALID);
             Check.due(call + " too high", x.set(what, HIGHEST[what] + 1), Check.INVALID);
@@ -70,7 +70,7 @@ public final class SettingsTest {
                 }
             }
         }
-        BridgeLegs x = new BridgeLegs();
+        Counted x = new Counted();
         for (int what : new int[] {-1, 6, 7, 10, Integer.MIN_VALUE, Integer.MAX_VALUE}) {
             Check.due("set(" + what + ", 2)", x.set(what, 2), Check.INVALID);
         }
@@ -80,7 +80,7 @@ public final class SettingsTest {
     private static void setLoad() {
         for (int load = 0; load < 2; load++) {
             for (int what = 0; what < 4; what++) {
-                BridgeLegs x = new BridgeLegs();
+                Counted x = new Counted();
                 String call = "setLoad(" + load + ", " + what + ", ..)";
                 Check.due(call + " too low", x.setLoad(load, what, LOAD_LOWEST[what] - 1), Check.INVALID);
                 Check.due(call + " too high", x.setLoad(load, what, LOAD_HIGHEST[what] + 1), Check.INVALID);
@@ -98,7 +98,7 @@ public final class SettingsTest {
                 }
             }
         }
-        BridgeLegs x = new BridgeLegs();
+        Counted x = new Counted();
         for (int load : new int[] {-1, 2, Integer.MIN_VALUE, Integer.MAX_VALUE}) {
             Check.due("setLoad(" + load + ", 0, 5)", x.setLoad(load, 0, 5), Check.INVALID);
         }
@@ -109,7 +109,7 @@ public final class SettingsTest {
     }
 
     private static void settingsApply() {
-        BridgeLegs x = new BridgeLegs();
+        Counted x = new Counted();
         x.setLoad(1, 0, 1000);
         x.setLoad(1, 1, 100);
         Check.commands(x, 1, 2, 2, 1);
@@ -126,7 +126,7 @@ public final class SettingsTest {
 
     private static void command() {
         for (int leg = 0; leg < 4; leg++) {
-            BridgeLegs x = new BridgeLegs();
+            Counted x = new Counted();
             String call = "command(" + leg + ", ..)";
             Check.due(call + " -1", x.command(leg, -1), Check.INVALID);
             Check.due(call + " 3", x.command(leg, 3), Check.INVALID);
@@ -144,7 +144,7 @@ public final class SettingsTest {
                 Check.due(call + " commands this leg", x.leg(other, 0), other == leg ? 2 : 0);
             }
         }
-        BridgeLegs x = new BridgeLegs();
+        Counted x = new Counted();
         for (int leg : new int[] {-1, 4, Integer.MIN_VALUE, Integer.MAX_VALUE}) {
             Check.due("command(" + leg + ", 1)", x.command(leg, 1), Check.INVALID);
         }
@@ -153,7 +153,7 @@ public final class SettingsTest {
     }
 
     private static void chop() {
-        BridgeLegs x = new BridgeLegs();
+        Counted x = new Counted();
         Check.due("chop(0, -1)", x.chop(0, -1), Check.INVALID);
         Check.due("chop(0, 2)", x.chop(0, 2), Check.INVALID);
         Check.due("chop(-1, 1)", x.chop(-1, 1), Check.INVALID);
@@ -171,7 +171,7 @@ public final class SettingsTest {
     }
 
     private static void chopperTurnedOffHoldsNothing() {
-        BridgeLegs x = new BridgeLegs();
+        Counted x = new Counted();
         x.set(1, 0);
         x.setLoad(0, 2, 100);
         x.chop(0, 1);

@@ -21,7 +21,7 @@ public final class SlotTest {
     }
 
     private static void arguments() {
-        BridgeLegs x = new BridgeLegs();
+        Counted x = new Counted();
         for (int slots : new int[] {0, -1, 1001, Integer.MIN_VALUE, Integer.MAX_VALUE}) {
             Check.due("go(" + slots + ")", x.go(slots), Check.INVALID);
         }
@@ -34,7 +34,7 @@ public final class SlotTest {
     }
 
     private static void limitOfSlots() {
-        BridgeLegs x = new BridgeLegs();
+        Counted x = new Counted();
         for (int time = 0; time < 99; time++) {
             Check.due("go(1000)", x.go(1000), 0);
         }
@@ -51,7 +51,7 @@ public final class SlotTest {
         Check.due("the limit is no change", x.count(0), 99999);
     }
 
-    private static void states(BridgeLegs x, int leg, String want) {
+    private static void states(Counted x, int leg, String want) {
         for (int slot = 0; slot < want.length(); slot++) {
             x.go(1);
             Check.due("state of leg " + leg + " in slot " + slot + " of " + want, x.leg(leg, 1), want.charAt(slot) - '0');
@@ -59,7 +59,7 @@ public final class SlotTest {
     }
 
     private static void deadSlots() {
-        BridgeLegs x = new BridgeLegs();
+        Counted x = new Counted();
         x.command(0, 1);
         states(x, 0, "11");
         x.command(0, 2);
@@ -80,7 +80,7 @@ public final class SlotTest {
     }
 
     private static void deadSlotsOfAnyNumber() {
-        BridgeLegs x = new BridgeLegs();
+        Counted x = new Counted();
         x.set(0, 0);
         x.command(2, 1);
         states(x, 2, "1");
@@ -107,7 +107,7 @@ public final class SlotTest {
     }
 
     private static void wishOffIsOffAtOnce() {
-        BridgeLegs x = new BridgeLegs();
+        Counted x = new Counted();
         x.command(3, 2);
         states(x, 3, "2");
         x.command(3, 0);
@@ -119,7 +119,7 @@ public final class SlotTest {
     }
 
     private static void drive(int first, int second, int drive, int current) {
-        BridgeLegs x = new BridgeLegs();
+        Counted x = new Counted();
         Check.commands(x, first, second, first, second);
         x.go(1);
         for (int load = 0; load < 2; load++) {
@@ -140,7 +140,7 @@ public final class SlotTest {
         drive(2, 0, Check.NONE, 0);
     }
 
-    private static void currents(BridgeLegs x, int... want) {
+    private static void currents(Counted x, int... want) {
         for (int slot = 0; slot < want.length; slot++) {
             x.go(1);
             Check.due("current of load 0, " + slot + " of " + java.util.Arrays.toString(want), x.load(0, 4), want[slot]);
@@ -148,7 +148,7 @@ public final class SlotTest {
     }
 
     private static void currentTowardZero() {
-        BridgeLegs x = new BridgeLegs();
+        Counted x = new Counted();
         Check.commands(x, 1, 2, 0, 0);
         currents(x, 40, 80, 120);
         x.command(1, 0);
@@ -181,7 +181,7 @@ public final class SlotTest {
 
     private static void smallestCurrents() {
         for (int sign = -1; sign <= 1; sign += 2) {
-            BridgeLegs x = new BridgeLegs();
+            Counted x = new Counted();
             x.setLoad(0, 0, 1);
             x.setLoad(0, 1, 0);
             Check.commands(x, sign > 0 ? 1 : 2, sign > 0 ? 2 : 1, 0, 0);
@@ -200,7 +200,7 @@ public final class SlotTest {
     /** The cut at 1000000 itself is out of reach: the heat turns the legs off long before. */
     private static void currentAsFarAsItGoes() {
         for (int sign = -1; sign <= 1; sign += 2) {
-            BridgeLegs x = new BridgeLegs();
+            Counted x = new Counted();
             x.set(2, 1000000);
             x.set(4, 1000000000);
             x.set(5, 1000000);
@@ -216,8 +216,8 @@ public final class SlotTest {
     }
 
     /** Without blanking and dead slots; held at 120, the leg 0 follows the leg 1. */
-    private static BridgeLegs chopped() {
-        BridgeLegs x = new BridgeLegs();
+    private static Counted chopped() {
+        Counted x = new Counted();
         x.set(0, 0);
         x.set(1, 0);
         x.setLoad(0, 2, 120);
@@ -228,7 +228,7 @@ public final class SlotTest {
     }
 
     private static void chopperHolds() {
-        BridgeLegs x = chopped();
+        Counted x = chopped();
         currents(x, 40, 80);
         Check.due("not held below the level", x.load(0, 7), 0);
         currents(x, 120);
@@ -248,7 +248,7 @@ public final class SlotTest {
     }
 
     private static void hysteresis() {
-        BridgeLegs x = chopped();
+        Counted x = chopped();
         x.setLoad(0, 3, 0);
         currents(x, 40, 80, 120, 110);
         Check.due("let go below the level", x.load(0, 7), 0);
@@ -274,7 +274,7 @@ public final class SlotTest {
     }
 
     private static void heldFollowsSecondLeg() {
-        BridgeLegs x = chopped();
+        Counted x = chopped();
         x.go(3);
         x.command(1, 1);
         Check.due("follows the new command", x.leg(0, 2), 1);
@@ -286,7 +286,7 @@ public final class SlotTest {
         Check.due("from 120 by 60", x.load(0, 4), 60);
     }
 
-    private static void blanks(BridgeLegs x, int load, int... want) {
+    private static void blanks(Counted x, int load, int... want) {
         for (int slot = 0; slot < want.length; slot++) {
             x.go(1);
             Check.due("blanked, load " + load + ", " + slot + " of " + java.util.Arrays.toString(want), x.load(load, 8), want[slot]);
@@ -294,7 +294,7 @@ public final class SlotTest {
     }
 
     private static void blanking() {
-        BridgeLegs x = new BridgeLegs();
+        Counted x = new Counted();
         x.setLoad(0, 2, 40);
         x.chop(0, 1);
         blanks(x, 0, 0);
@@ -309,7 +309,7 @@ public final class SlotTest {
         x.go(1);
         Check.due("held behind it", x.load(0, 7), 1);
         Check.due("the other load is not blanked", x.load(1, 8), 0);
-        x = new BridgeLegs();
+        x = new Counted();
         x.command(3, 1);
         blanks(x, 1, 2, 1, 0, 0);
         x.command(3, 2);
@@ -318,7 +318,7 @@ public final class SlotTest {
     }
 
     private static void blankingIsSetAnew() {
-        BridgeLegs x = new BridgeLegs();
+        Counted x = new Counted();
         x.set(1, 50);
         x.command(0, 1);
         blanks(x, 0, 49);
@@ -345,7 +345,7 @@ public final class SlotTest {
     }
 
     private static void heat() {
-        BridgeLegs x = new BridgeLegs();
+        Counted x = new Counted();
         x.setLoad(0, 0, 1000);
         x.setLoad(0, 1, 0);
         x.set(2, 1000000);
@@ -376,7 +376,7 @@ public final class SlotTest {
         x.go(1);
         Check.due("44 the other way", x.load(0, 4), -44);
         Check.due("1936 / 1000", x.load(0, 5), 1);
-        x = new BridgeLegs();
+        x = new Counted();
         x.setLoad(0, 0, 1000);
         x.setLoad(0, 1, 0);
         x.set(2, 1000000);
@@ -402,7 +402,7 @@ public final class SlotTest {
     }
 
     private static void loadsAreApart() {
-        BridgeLegs x = new BridgeLegs();
+        Counted x = new Counted();
         Check.commands(x, 0, 0, 2, 1);
         x.go(5);
         Check.due("load 0", x.load(0, 4), 0);

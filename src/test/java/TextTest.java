@@ -15,7 +15,7 @@ public final class TextTest {
     }
 
     private static void type() {
-        BridgeLegs x = new BridgeLegs();
+        Counted x = new Counted();
         for (int wrong : new int[] {Integer.MIN_VALUE, -1, 0, 31, 127, 256, 65536 + 'h', Integer.MAX_VALUE}) {
             Check.due("type(" + wrong + ")", x.type(wrong), Check.INVALID);
         }
@@ -32,7 +32,7 @@ public final class TextTest {
     }
 
     private static void clearText() {
-        BridgeLegs x = new BridgeLegs();
+        Counted x = new Counted();
         Check.due("clearText of nothing", x.clearText(), 0);
         Check.text(x, "oooo*5;");
         Check.due("clearText", x.clearText(), 7);
@@ -46,7 +46,7 @@ public final class TextTest {
     }
 
     private static void wrong(String text, int want) {
-        BridgeLegs x = new BridgeLegs();
+        Counted x = new Counted();
         Check.text(x, text);
         Check.due("wrong() of \"" + text + "\"", x.wrong(), want);
         Check.due("playing() or not of \"" + text + "\"", x.playing() == Check.IMPOSSIBLE ? 1 : 0, want == Check.NONE ? 0 : 1);
@@ -112,12 +112,12 @@ public final class TextTest {
         String whole = "hl=o*123;oooo;";
         String[] may = {"ohl=", "ohl=", "ohl=", "ohl=", ";*", "0123456789", ";0123456789", ";0123456789", ";",
             "ohl=", "ohl=", "ohl=", "ohl=", ";*"};
-        BridgeLegs x = new BridgeLegs();
+        Counted x = new Counted();
         int calls = 0;
         for (int place = 0; place < whole.length(); place++) {
             for (int sign = 32; sign <= 126; sign++) {
                 if (calls > 400) {
-                    x = new BridgeLegs();
+                    x = new Counted();
                     calls = 0;
                 }
                 String text = whole.substring(0, place) + (char) sign;
@@ -131,7 +131,7 @@ public final class TextTest {
     }
 
     private static void playing(String text, int want) {
-        BridgeLegs x = new BridgeLegs();
+        Counted x = new Counted();
         Check.text(x, text);
         Check.due("playing() of \"" + text + "\"", x.playing(), want);
         Check.due("no slot goes by", x.count(0), 0);
@@ -155,10 +155,10 @@ public final class TextTest {
     }
 
     private static void play() {
-        BridgeLegs x = new BridgeLegs();
+        Counted x = new Counted();
         Check.text(x, "hl=o*3;=o==;l===*4;");
         Check.due("play()", x.play(), 8);
-        BridgeLegs twin = new BridgeLegs();
+        Counted twin = new Counted();
         twin.command(0, 1);
         twin.command(1, 2);
         twin.go(3);
@@ -166,12 +166,9 @@ public final class TextTest {
         twin.go(1);
         twin.command(0, 2);
         twin.go(4);
-        java.util.List<Long> seen = Check.look(x);
-        java.util.List<Long> due = Check.look(twin);
-        // The states in the history and the length of the text.
-        due.set(6, 1L);
-        due.set(7, 19L);
-        Check.due("differences from its commands one by one", Check.differences(seen, due), 0);
+        Check.same("played, and its commands one by one", Check.look(x), Check.look(twin),
+            "count(5)", "count(6)", "playing()");
+        Check.due("one change", x.count(5), 1);
         Check.due("again", x.play(), 8);
         Check.due("slots", x.count(0), 16);
         Check.due("undo of the second", x.undo(), 1);
@@ -182,7 +179,7 @@ public final class TextTest {
     }
 
     private static void playGivesCommands() {
-        BridgeLegs x = new BridgeLegs();
+        Counted x = new Counted();
         Check.text(x, "ohl=;");
         Check.commands(x, 1, 0, 0, 2);
         x.play();
@@ -200,7 +197,7 @@ public final class TextTest {
         x.play();
         Check.due("empty", x.leg(0, 0), 2);
         // A fault that is latched on the way turns the legs off, but the pattern goes on.
-        x = new BridgeLegs();
+        x = new Counted();
         x.setLoad(0, 1, 100);
         x.set(3, 2);
         Check.text(x, "hloo*5;====*5;");
@@ -210,7 +207,7 @@ public final class TextTest {
     }
 
     private static void playAndTheLimit() {
-        BridgeLegs x = new BridgeLegs();
+        Counted x = new Counted();
         for (int time = 0; time < 99; time++) {
             x.go(1000);
         }
@@ -233,7 +230,7 @@ public final class TextTest {
     }
 
     private static void theLongestText() {
-        BridgeLegs x = new BridgeLegs();
+        Counted x = new Counted();
         StringBuilder text = new StringBuilder();
         for (int part = 0; part < 16; part++) {
             text.append("hlhl;");
