@@ -23,6 +23,7 @@ public final class HistoryBoundsTest {
         scopeOfHeldLoads();
         scopeTakesNothingOver();
         totalsUndone();
+        theLastCall();
         Check.end();
     }
 
@@ -354,5 +355,21 @@ public final class HistoryBoundsTest {
         Check.due("held slots", x.count(4), want[1]);
         Check.due("sum of the sizes", x.count(20), want[2]);
         Check.due("slots", x.count(0), 2);
+    }
+
+    /** "An object is used for at most 512 calls": the 512th is as good as the first. */
+    private static void theLastCall() {
+        Counted x = new Counted();
+        for (int call = 1; call <= 255; call++) {
+            x.set(5, call);
+            x.go(1);
+        }
+        Check.due("the 511th call", x.undo(), 3);
+        Check.due("the 512th call", x.count(0), 254);
+        x = new Counted();
+        for (int call = 1; call <= 511; call++) {
+            x.go(call % 2 + 1);
+        }
+        Check.due("the 512th call", x.undo(), 3);
     }
 }
