@@ -25,7 +25,9 @@ public final class LanguageTest {
     public static void main(String[] args) throws IOException {
         face();
         classesInside();
-        words(bare(Files.readString(Path.of(SOURCE))));
+        String source = Files.readString(Path.of(SOURCE));
+        words(bare(source));
+        methodsAreShort(source);
         Check.end();
     }
 
@@ -77,12 +79,45 @@ public final class LanguageTest {
             Check.due(inside + " is static", Modifier.isStatic(modifiers) ? 1 : 0, 1);
             Check.due(inside + " is not public", Modifier.isPublic(modifiers) || Modifier.isProtected(modifiers) ? 1 : 0, 0);
             staticFieldsAreFinal(inside);
+            methodsInside(inside);
             long fields = 0;
             for (Field field : inside.getDeclaredFields()) {
                 fields += Modifier.isStatic(field.getModifiers()) ? 0 : 1;
             }
             Check.due(inside + " has at most twenty fields", fields <= 20 ? 1 : 0, 1);
         }
+    }
+
+    private static void methodsInside(Class<?> inside) {
+        Check.due(inside + " has no class inside", inside.getDeclaredClasses().length, 0);
+        for (Method method : inside.getDeclaredMethods()) {
+            boolean named = FACE.stream().anyMatch(call -> call.contains(" " + method.getName() + "("));
+            Check.due(method + " has a name of its own", named ? 1 : 0, 0);
+            Check.due(method + " has at most seven parameters", method.getParameterCount() <= 7 ? 1 : 0, 1);
+        }
+    }
+
+    /** Each method and constructor in some sixty lines: from a head, told by its depth, to its closing brace. */
+    private static void methodsAreShort(String source) {
+        String head = "";
+        int lines = 0;
+        int methods = 0;
+        for (String line : source.split("\n")) {
+            boolean begins = line.matches("( {4}){1,2}[A-Za-z].*\\) \\{") && !line.matches(" *(if|for|while|switch) .*");
+            if (begins && head.isEmpty()) {
+                head = line;
+                lines = 0;
+                methods++;
+            }
+            lines++;
+            String end = head.replaceAll("\\S.*", "}");
+            if (!head.isEmpty() && line.equals(end)) {
+                Check.due(head.trim() + " has " + lines + " lines", lines <= 60 ? 1 : 0, 1);
+                head = "";
+            }
+        }
+        Check.due("methods are found", methods >= FACE.size() ? 1 : 0, 1);
+        Check.due("each has an end", head.isEmpty() ? 1 : 0, 1);
     }
 
     private static void staticFieldsAreFinal(Class<?> type) {

@@ -9,6 +9,7 @@ public final class SettingsTest {
 
     public static void main(String[] args) {
         newObject();
+        objectsAreApart();
         set();
         setLoad();
         settingsApply();
@@ -46,6 +47,28 @@ public final class SettingsTest {
         Check.due("new: undo()", x.undo(), Check.IMPOSSIBLE);
         Check.due("new: wrong()", x.wrong(), Check.NONE);
         Check.due("new: playing()", x.playing(), 0);
+    }
+
+    /** A new object is as it was promised, also when others were used before it and are used beside it. */
+    private static void objectsAreApart() {
+        Counted used = Check.busy("hl==*3;");
+        newObject();
+        Counted other = Check.busy("hl==*3;");
+        Counted beside = new Counted();
+        beside.set(1, 9);
+        beside.setLoad(0, 2, 9);
+        Check.commands(beside, 2, 1, 1, 2);
+        beside.chop(0, 1);
+        beside.go(60);
+        beside.undo();
+        Check.text(beside, "oooo");
+        beside.until(1, 800);
+        beside.ifGo(1, 50);
+        Check.same("beside another", Check.look(used), Check.look(other));
+        Check.due("undo of it", used.undo(), 3);
+        Check.due("slot of it", used.count(0), 40);
+        Check.due("slot of the other", other.count(0), 41);
+        Check.due("states of the other", other.count(5), 4);
     }
 
     private static void set() {
